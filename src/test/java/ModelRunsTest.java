@@ -2,8 +2,9 @@ import java.util.Random;
 
 /** Promises 1 to 14: long runs of calls, each answer and the whole state against the model's. */
 public final class ModelRunsTest {
-    private static final int RUNS = 3000;
-    private static final int CALLS = 512;
+    private static final int RUNS = 30000;
+    // Each is followed by nine looks at the state: with them a run stays within 512 calls.
+    private static final int CALLS = 45;
     private static final int[] EDGES = {1, 1, 2, 3, 24, 56, 57, 64, 65, 127, 128, 129, 130, 136, 144, 160, 161,
         183, 184, 185, 192, 200, 216, 248, 254, 255, 255};
 
@@ -128,6 +129,10 @@ public final class ModelRunsTest {
         x = new ExactFloats();
         model = new Model();
         near = random.nextInt(256);
+        for (int r = 0; r < 8; r++) {
+            long v = bits();
+            check.due("set(" + r + ", " + v + ")", x.set(r, v), model.set(r, v));
+        }
         for (int i = 0; i < CALLS; i++) {
             call();
             check.due("lost()", x.lost(), model.lost);
