@@ -4,13 +4,19 @@ import java.util.function.IntSupplier;
 final class Check {
     private int wrong = 0;
     private int looked = 0;
+    private String quoted = "";
+
+    /** What is looked at from now on tests this sentence of the document. */
+    void sentence(String words) {
+        quoted = "'" + words + "': ";
+    }
 
     void due(String call, long got, long want) {
         looked++;
         if (got != want) {
             wrong++;
             if (wrong <= 50) {
-                System.out.println("  " + call + " answered " + got + " (" + Long.toHexString(got) + "), due is "
+                System.out.println("  " + quoted + call + " answered " + got + " (" + Long.toHexString(got) + "), due is "
                         + want + " (" + Long.toHexString(want) + ")");
             }
         }
